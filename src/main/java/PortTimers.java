@@ -463,7 +463,7 @@ public final class PortTimers {
 
         /** Runs out, and goes on by so many cycles behind that. */
         private void runOut(int left) {
-            // From one time to the next: to the latch, down to 0, and one more.
+            // From one time to the next: to the latch, down to 0, and one more; so never below 2.
             int round = latch + 2;
             int times = 1 + left / round;
             int behindLast = left % round;

@@ -90,7 +90,10 @@ public final class Promise3ReadTest {
         Check.due("port A, B alone held", x.read(15), 0xF0);
         Check.due("port B, held", x.read(0), 0x22);
         Check.due("port B, its flag lowered by the read", x.read(0), 0xEE);
+        Check.fall(x, 2);
+        x.pins(0xFF, 0xDD);
         x.write(11, 1);
+        Check.due("port B, A alone held", x.read(0), 0xDD);
         x.write(13, 2);
         Check.due("port A, its flag lowered", x.read(15), 0xF0);
         x.write(11, 0x82);
@@ -119,6 +122,20 @@ public final class Promise3ReadTest {
     }
 
     private static void timersAreRead() {
+        PortTimers both = new PortTimers();
+        both.write(4, 0x12);
+        both.write(5, 0x34);
+        both.write(8, 0x56);
+        both.write(9, 0x78);
+        both.step(1);
+        Check.due("timer 1's low byte", both.read(4), 0x11);
+        Check.due("timer 1's high byte", both.read(5), 0x34);
+        Check.due("timer 2's low byte", both.read(8), 0x55);
+        Check.due("timer 2's high byte", both.read(9), 0x78);
+        timersAreReadWithTheirFlags();
+    }
+
+    private static void timersAreReadWithTheirFlags() {
         PortTimers x = new PortTimers();
         x.write(5, 0);
         x.write(9, 0);

@@ -6,6 +6,8 @@ public final class Promise6StepTest {
         timer1IsDueForItsLatch();
         timer1StaysArmedWhileItRunsFreely();
         timer1RunsFreelyWithLatchesOfTheEnds();
+        timer1GoesManyRoundsOfANewLatch();
+        onlyItsOwnControlBitCounts();
         timer2RunsOut();
         theShifterTakesIn();
         theShifterGives();
@@ -116,6 +118,30 @@ public final class Promise6StepTest {
         Check.due("latch 65535, timer 1 becomes it", x.told(0), 65535);
         x.step(65536);
         Check.due("latch 65535, bit behind a round", x.told(4), 0);
+    }
+
+    private static void timer1GoesManyRoundsOfANewLatch() {
+        PortTimers x = withTimer1(64, 10);
+        x.write(6, 3);
+        x.step(11 + 5 * 7 + 2);
+        Check.due("timer 1, eight times and two cycles", x.told(0), 2);
+        Check.due("timer's bit, eight times", x.told(4), 0);
+        x.step(3 + 5 * 4);
+        Check.due("timer 1, five times more", x.told(0), 65535);
+        Check.due("timer's bit, five times more", x.told(4), 1);
+    }
+
+    private static void onlyItsOwnControlBitCounts() {
+        PortTimers x = withTimer1(255 - 64 - 32, 1);
+        x.write(9, 0);
+        x.step(3);
+        Check.due("timer 1, control bit 6 is 0", x.told(0), 65534);
+        Check.due("timer 2, control bit 5 is 0", x.told(1), 65533);
+        x = withTimer1(64 + 32, 1);
+        x.write(9, 0);
+        x.step(3);
+        Check.due("timer 1, control bit 6 is 1", x.told(0), 1);
+        Check.due("timer 2, control bit 5 is 1", x.told(1), 0);
     }
 
     private static void timer2RunsOut() {

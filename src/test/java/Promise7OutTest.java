@@ -7,6 +7,7 @@ public final class Promise7OutTest {
         waysKeepWhatTheyGave();
         fixedWays();
         cb2GivesWhatTheShifterGives();
+        theWayOfTheOtherLineDoesNotMatter();
         theProcessorIsCalled();
         wrongInputs();
         Check.end();
@@ -110,6 +111,16 @@ public final class Promise7OutTest {
                 Check.due("CA2, mode " + mode + ", way " + way, x.out(2), gives[way]);
             }
         }
+    }
+
+    private static void theWayOfTheOtherLineDoesNotMatter() {
+        PortTimers x = new PortTimers();
+        x.write(11, 24);
+        x.write(12, 0x0C);
+        Check.due("CB2 in mode 6, CA2 an output", x.out(3), 1);
+        x.write(12, 0xC0);
+        Check.due("CB2 an output of 0, CA2 none", x.out(3), 0);
+        Check.due("CA2, CB2 an output", x.out(2), 2);
     }
 
     private static void theProcessorIsCalled() {

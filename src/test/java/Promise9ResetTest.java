@@ -18,15 +18,21 @@ public final class Promise9ResetTest {
                 x.write(register, 0xDB);
             }
         }
-        x.step(100);
+        x.write(10, 0x5B);
+        x.step(3);
+        Check.due("shifts to come before", x.told(3), 7);
+        Check.due("OUT A before", x.out(0), 0xDB);
         x.reset();
         Check.due("the state", Check.state(x), Check.state(new PortTimers()));
         Check.due("port B", x.read(0), 0);
+        x.write(2, 255);
+        x.write(3, 255);
+        Check.due("OUT A", x.out(0), 0);
+        Check.due("OUT B", x.out(1), 0);
         Check.due("step(70000)", x.step(70000), 0);
         x.write(9, 0);
         Check.due("timer 2's latch", x.told(1), 0);
         x.write(11, 24);
-        Check.due("what the shifter gives", x.out(3), 1);
         Check.due("the shifter", x.read(10), 0);
     }
 
@@ -71,11 +77,14 @@ public final class Promise9ResetTest {
         x.step(1);
         Check.due("timer 1 runs out, no latch was due", x.told(0), 65535);
         x.reset();
-        x.write(11, 8);
+        x.write(11, 24);
         x.write(10, 0);
-        x.step(1);
+        x.step(3);
+        Check.due("what the shifter gives before", x.out(3), 0);
         x.reset();
-        x.write(11, 8);
+        x.write(11, 24);
+        Check.due("what the shifter gives", x.out(3), 1);
+        Check.due("no shifts come", x.step(100), 0);
         x.write(10, 0);
         x.step(1);
         Check.due("no half shift is left", x.told(3), 8);
