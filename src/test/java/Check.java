@@ -27,21 +27,29 @@ final class Check {
         }
     }
 
-    /**
-     * The call must throw exactly IllegalArgumentException, and change nothing. It has an object
-     * of its own, for nothing is promised behind an object's 512th call.
-     */
-    static void refused(String name, Supplier<PortTimers> maker, Consumer<PortTimers> call) {
-        PortTimers x = maker.get();
-        String before = state(x);
-        String thrown = "nothing";
+    /** The call must throw exactly IllegalArgumentException, and change nothing, in any state. */
+    static void refused(String name, Consumer<PortTimers> call) {
+        for (Supplier<PortTimers> maker : States.ALL) {
+            PortTimers x = maker.get();
+            due(name + " throws", thrownBy(x, call), "java.lang.IllegalArgumentException");
+            due("all behind " + name, whole(x), whole(maker.get()));
+        }
+    }
+
+    /** The call must not throw, in any state. */
+    static void taken(String name, Consumer<PortTimers> call) {
+        for (Supplier<PortTimers> maker : States.ALL) {
+            due(name + " throws", thrownBy(maker.get(), call), "nothing");
+        }
+    }
+
+    static String thrownBy(PortTimers x, Consumer<PortTimers> call) {
         try {
             call.accept(x);
         } catch (RuntimeException e) {
-            thrown = e.getClass().getName();
+            return e.getClass().getName();
         }
-        due(name + " throws", thrown, "java.lang.IllegalArgumentException");
-        due("the state behind " + name, state(x), before);
+        return "nothing";
     }
 
     /** All that can be seen of an object without changing it. */
@@ -57,6 +65,50 @@ final class Check {
             seen.append(" o").append(what).append('=').append(x.out(what));
         }
         return seen.toString();
+    }
+
+    /** All that an object holds, also what shows only later; the object is used up by it. */
+    static String whole(PortTimers x) {
+        StringBuilder seen = new StringBuilder(state(x));
+        seeWhatLinesGive(seen, x);
+        for (int i = 0; i < 3; i++) {
+            seen.append("; step ").append(x.step(1)).append(state(x));
+        }
+        int[] registers = {4, 8, 10, 0, 1, 13};
+        for (int register : registers) {
+            seen.append(" r").append(register).append('=').append(x.read(register));
+        }
+        seeWhatTheWorldGives(seen, x);
+        x.write(9, 0);
+        x.write(2, 255);
+        x.write(3, 255);
+        seen.append("; latch of timer 2, outs").append(state(x));
+        return seen.toString();
+    }
+
+    private static void seeWhatLinesGive(StringBuilder seen, PortTimers x) {
+        int control = x.read(11);
+        int ways = x.read(12);
+        x.write(11, 24 + 3);
+        seen.append("; port A, held ").append(x.read(15)).append("; given");
+        int[] probes = {0, 0x88, 0xAA};
+        for (int probe : probes) {
+            x.write(12, probe);
+            seen.append(' ').append(x.out(2)).append(x.out(3));
+        }
+        x.write(11, control);
+        x.write(12, ways);
+    }
+
+    private static void seeWhatTheWorldGives(StringBuilder seen, PortTimers x) {
+        x.write(12, 0);
+        seen.append("; lines");
+        for (int which = 0; which < 4; which++) {
+            seen.append(' ').append(x.line(which, false));
+        }
+        x.write(11, 32);
+        x.pins(0, 0);
+        seen.append("; timer 2 behind a fall ").append(x.told(1));
     }
 
     /** Brings a falling edge of a line, which is 0 again behind it. */

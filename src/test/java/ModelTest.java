@@ -1,4 +1,6 @@
+import java.util.List;
 import java.util.Random;
+import java.util.function.Consumer;
 
 /** Many runs of calls, the same ones each time, held against the plain model. */
 public final class ModelTest {
@@ -29,7 +31,7 @@ public final class ModelTest {
     private static void oneRound(int run, Random random, PortTimers x, PlainModel model) {
         int register = random.nextInt(16);
         int v = value(random, register);
-        switch (random.nextInt(12)) {
+        switch (random.nextInt(13)) {
             case 0: case 1: case 2: case 3:
                 x.write(register, v);
                 model.write(register, v);
@@ -53,12 +55,28 @@ public final class ModelTest {
                 Check.due("run " + run + ": step(" + n + ")", x.step(n), model.step(n));
                 break;
             default:
+                // The model knows nothing of it, for it must change nothing.
+                refusedCall(run, random, x, register, v);
                 break;
         }
         if (random.nextInt(200) == 0) {
             x.reset();
             model.reset();
         }
+    }
+
+    private static void refusedCall(int run, Random random, PortTimers x, int register, int v) {
+        int[] kinds = {1, 16, 256, 200001, Integer.MAX_VALUE};
+        int far = kinds[random.nextInt(kinds.length)];
+        int tooMuch = random.nextBoolean() ? -far : Math.max(far, 256);
+        List<Consumer<PortTimers>> calls = List.of(
+                y -> y.write(tooMuch, v), y -> y.write(register, tooMuch), y -> y.read(tooMuch),
+                y -> y.pins(tooMuch, v), y -> y.pins(v, tooMuch), y -> y.line(tooMuch, v > 127),
+                y -> y.step(tooMuch < 0 ? tooMuch : 200001), y -> y.out(tooMuch), y -> y.told(tooMuch));
+        int which = random.nextInt(calls.size());
+        String thrown = Check.thrownBy(x, calls.get(which));
+        Check.due("run " + run + ": refused call " + which + " with " + tooMuch + " throws", thrown,
+                "java.lang.IllegalArgumentException");
     }
 
     /** High bytes are mostly 0, so that timers run out often. */

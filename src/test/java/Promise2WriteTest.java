@@ -11,7 +11,6 @@ public final class Promise2WriteTest {
         theShifterIsWritten();
         flagsAreLowered();
         flagsAreEnabled();
-        wrongInputs();
         Check.end();
     }
 
@@ -162,24 +161,5 @@ public final class Promise2WriteTest {
         Check.due("enabled, all", x.read(14), 0xFF);
         x.write(14, 0x7F);
         Check.due("enabled, none", x.read(14), 0x80);
-    }
-
-    private static void refused(int register, int v) {
-        Check.refused("write(" + register + ", " + v + ")", () -> withLineFlags(8),
-                x -> x.write(register, v));
-    }
-
-    private static void wrongInputs() {
-        int[] registers = {-1, 16, Integer.MIN_VALUE, Integer.MAX_VALUE};
-        for (int register : registers) {
-            refused(register, 0);
-        }
-        int[] values = {-1, 256, Integer.MIN_VALUE, Integer.MAX_VALUE};
-        for (int v : values) {
-            for (int register = 0; register < 16; register++) {
-                refused(register, v);
-            }
-        }
-        refused(16, 256);
     }
 }

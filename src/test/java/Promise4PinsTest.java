@@ -5,7 +5,6 @@ public final class Promise4PinsTest {
         timer2CountsPulses();
         timer2RunsOutByPulses();
         otherwisePulsesDoNotCount();
-        wrongInputs();
         Check.end();
     }
 
@@ -78,33 +77,5 @@ public final class Promise4PinsTest {
         x.write(11, 32);
         x.pins(0, 0);
         Check.due("flags, the bit set between", x.read(13), 32);
-    }
-
-    private static PortTimers readyToCount() {
-        PortTimers x = new PortTimers();
-        x.write(11, 32);
-        x.pins(3, 64);
-        return x;
-    }
-
-    private static void refused(int a, int b) {
-        Check.refused("pins(" + a + ", " + b + ")", Promise4PinsTest::readyToCount, x -> x.pins(a, b));
-    }
-
-    private static void wrongInputs() {
-        int[] wrong = {-1, 256, 300, Integer.MIN_VALUE, Integer.MAX_VALUE};
-        for (int v : wrong) {
-            refused(v, 0);
-            refused(0, v);
-            refused(v, v);
-        }
-        PortTimers x = readyToCount();
-        try {
-            x.pins(256, 0);
-        } catch (IllegalArgumentException e) {
-            Check.due("port B", x.read(0), 64);
-        }
-        x.pins(255, 0);
-        Check.due("timer 2", x.told(1), 65535);
     }
 }

@@ -9,7 +9,6 @@ public final class Promise5LineTest {
         aLineMovesThoughItIsAnOutput();
         theOtherWaysBitsDoNotMatter();
         cb2HasEdgesInMode6();
-        wrongInputs();
         Check.end();
     }
 
@@ -77,13 +76,5 @@ public final class Promise5LineTest {
         x.write(11, 24);
         Check.due("CB2 falls in mode 6", Check.fall(x, 3), true);
         Check.due("flags", x.read(13), 8);
-    }
-
-    private static void wrongInputs() {
-        int[] wrong = {-1, 4, Integer.MIN_VALUE, Integer.MAX_VALUE};
-        for (int which : wrong) {
-            Check.refused("line(" + which + ", true)", PortTimers::new, x -> x.line(which, true));
-            Check.refused("line(" + which + ", false)", PortTimers::new, x -> x.line(which, false));
-        }
     }
 }

@@ -15,7 +15,6 @@ public final class Promise6StepTest {
         wayFiveIsOverBehindACycle();
         wayFourIsNot();
         theAnswerIsTheFlags();
-        wrongInputs();
         Check.end();
     }
 
@@ -258,12 +257,5 @@ public final class Promise6StepTest {
         Check.due("step(0), enabled", x.step(0), 131);
         Check.due("step(200000)", x.step(200000), 131);
         Check.due("cycles", x.told(6), 200000);
-    }
-
-    private static void wrongInputs() {
-        int[] wrong = {-1, 200001, Integer.MIN_VALUE, Integer.MAX_VALUE};
-        for (int n : wrong) {
-            Check.refused("step(" + n + ")", PortTimers::new, x -> x.step(n));
-        }
     }
 }

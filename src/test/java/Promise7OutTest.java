@@ -9,7 +9,6 @@ public final class Promise7OutTest {
         cb2GivesWhatTheShifterGives();
         theWayOfTheOtherLineDoesNotMatter();
         theProcessorIsCalled();
-        wrongInputs();
         Check.end();
     }
 
@@ -133,12 +132,5 @@ public final class Promise7OutTest {
         Check.due("a flag that is enabled", x.out(4), 1);
         x.write(14, 8);
         Check.due("no more enabled", x.out(4), 0);
-    }
-
-    private static void wrongInputs() {
-        int[] wrong = {-1, 5, Integer.MIN_VALUE, Integer.MAX_VALUE};
-        for (int what : wrong) {
-            Check.refused("out(" + what + ")", PortTimers::new, x -> x.out(what));
-        }
     }
 }

@@ -4,7 +4,6 @@ public final class Promise8ToldTest {
         theInsidesAreTold();
         whoIsArmedIsTold();
         cyclesAreCounted();
-        wrongInputs();
         Check.end();
     }
 
@@ -46,12 +45,5 @@ public final class Promise8ToldTest {
         Check.due("cycles, none more", x.told(6), 80000000);
         x.step(1);
         Check.due("cycles, one more", x.told(6), 80000001);
-    }
-
-    private static void wrongInputs() {
-        int[] wrong = {-1, 7, Integer.MIN_VALUE, Integer.MAX_VALUE};
-        for (int what : wrong) {
-            Check.refused("told(" + what + ")", PortTimers::new, x -> x.told(what));
-        }
     }
 }
