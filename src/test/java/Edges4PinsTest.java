@@ -10,6 +10,7 @@ public final class Edges4PinsTest {
         pulsesCountWithTheBitAlone();
         cyclesDoNotCountWithTheBit();
         stayingAndRisingDoNotCount();
+        pulsesCountWhateverTheDirectionIs();
         pinsRaiseNoOtherFlag();
         Check.end();
     }
@@ -139,6 +140,21 @@ public final class Edges4PinsTest {
         x.pins(0, 64);
         x.pins(255, 255);
         Check.due("timer 2, stays 1", x.told(1), 0);
+    }
+
+    /** "bit 6 of pins B": the pins themselves, not the port or what comes out of it */
+    private static void pulsesCountWhateverTheDirectionIs() {
+        PortTimers x = counting(9);
+        x.write(2, 255);
+        pulse(x);
+        Check.due("timer 2, pin 6 is an output", x.told(1), 8);
+        x.write(0, 255);
+        x.write(0, 0);
+        Check.due("timer 2, OUT B fell", x.told(1), 8);
+        x.pins(0, 64);
+        x.write(2, 0);
+        x.write(2, 255);
+        Check.due("timer 2, port B fell by its directions", x.told(1), 8);
     }
 
     private static void pinsRaiseNoOtherFlag() {

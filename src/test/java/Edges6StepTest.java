@@ -12,6 +12,7 @@ public final class Edges6StepTest {
         timer1RunsFreelyThoughNotArmed();
         timer1IsArmedNoMore();
         timer1SwitchesFromFreeToOnce();
+        otherControlBitsDoNotCount();
         timer2RunsOutBehindZero();
         timer2IsArmedNoMore();
         timer2HasNoFreeRun();
@@ -23,6 +24,7 @@ public final class Edges6StepTest {
         shiftsStayToCome();
         modesChangeBetweenShifts();
         wayFiveIsOver();
+        wayFiveIsOverInAnotherWay();
         wayFourGoesOn();
         theAnswerHas128();
         Check.end();
@@ -216,6 +218,17 @@ public final class Edges6StepTest {
         Check.due("armed no more", x.told(5), 0);
     }
 
+    /** "control bit 6" for timer 1, "control bit 5" for timer 2, and no other one */
+    private static void otherControlBitsDoNotCount() {
+        for (int bit = 1; bit < 256; bit <<= 1) {
+            PortTimers x = withTimer1(bit, 5);
+            x.write(9, 0);
+            x.step(7);
+            Check.due("timer 1, control " + bit, x.told(0), bit == 64 ? 5 : 65534);
+            Check.due("timer 2, control " + bit, x.told(1), bit == 32 ? 0 : 65529);
+        }
+    }
+
     /** "Timer 2, if control bit 5 is 0: it is 1 less; if it runs out so" */
     private static void timer2RunsOutBehindZero() {
         PortTimers x = new PortTimers();
@@ -356,14 +369,14 @@ public final class Edges6StepTest {
     }
 
     private static void modesChangeBetweenShifts() {
-        PortTimers x = shifting(6, 0x00);
+        PortTimers x = shifting(6, 0x40);
         x.line(3, true);
         x.step(3);
         x.write(11, 8);
         x.step(1);
         Check.due("to come, a cycle of each mode", x.told(3), 6);
         x.write(11, 24);
-        Check.due("CB2, what mode 6 gave last", x.out(3), 0);
+        Check.due("CB2, what mode 6 gave, not what went out in mode 2", x.out(3), 0);
         x.step(12);
         Check.due("flags", x.read(13), 4);
         Check.due("the bits", x.read(10), 0x40);
@@ -385,6 +398,20 @@ public final class Edges6StepTest {
             x.step(n);
             Check.due("CA2, " + n + " cycles", x.out(2), 1);
             Check.due("CB2, " + n + " cycles", x.out(3), 1);
+        }
+    }
+
+    private static void wayFiveIsOverInAnotherWay() {
+        for (int way = 0; way < 8; way++) {
+            PortTimers x = new PortTimers();
+            x.write(12, 0xAA);
+            x.write(1, 0);
+            x.write(0, 0);
+            x.write(12, way << 5 | way << 1);
+            x.step(1);
+            x.write(12, 0xAA);
+            Check.due("CA2, a cycle in way " + way, x.out(2), 1);
+            Check.due("CB2, a cycle in way " + way, x.out(3), 1);
         }
     }
 

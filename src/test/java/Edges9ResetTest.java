@@ -9,6 +9,7 @@ public final class Edges9ResetTest {
         linesAreNoEdges();
         heldPinsAreForgotten();
         aPulseGoesOnBehindIt();
+        noLatchIsDueBehindIt();
         cyclesAreNoneAgain();
         theObjectGoesOnBehindIt();
         Check.end();
@@ -108,6 +109,18 @@ public final class Edges9ResetTest {
         x.pins(0, 0);
         Check.due("flags, pin 6 was 1 still", x.read(13), 32);
         Check.due("timer 2", x.told(1), 65535);
+    }
+
+    /** Timer 1 ran out in the cycle before, but that was before all was as at first. */
+    private static void noLatchIsDueBehindIt() {
+        PortTimers x = States.latchIsDue();
+        x.reset();
+        x.write(11, 64);
+        x.write(6, 9);
+        Check.due("runs out from 0", x.step(1), 64);
+        Check.due("timer 1", x.told(0), 65535);
+        x.step(1);
+        Check.due("timer 1, its latch", x.told(0), 9);
     }
 
     private static void cyclesAreNoneAgain() {
